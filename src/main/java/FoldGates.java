@@ -209,11 +209,11 @@ public final class FoldGates {
     public int reached(int stands, int k) {
         if (noFold()) return STATE;
         if (!isStanding(stands) || k < -1) return BAD;
-        Search found = searchFromNow();
-        if (!found.finds(stands)) return NONE;
-        int length = found.lengthTo(stands);
+        Search ways = searchFromNow();
+        if (!ways.finds(stands)) return NONE;
+        int length = ways.lengthTo(stands);
         if (k == -1) return length;
-        return k < length ? found.beastBefore(stands, length - 1 - k) : NONE;
+        return k < length ? ways.beastBefore(stands, length - 1 - k) : NONE;
     }
 
     public int comes() {
