@@ -9,15 +9,21 @@ final class Check {
 
     private static int asked = 0;
     private static int wrong = 0;
+    private static String sentence = "";
 
     private Check() {
+    }
+
+    /** The sentence of the document that the answers behind this are due by. */
+    static void by(String told) {
+        sentence = told + ": ";
     }
 
     static void due(String call, long want, long got) {
         asked++;
         if (got == want) return;
         wrong++;
-        if (wrong <= 50) System.out.println(call + " answered " + got + ", due is " + want);
+        if (wrong <= 50) System.out.println(sentence + call + " answered " + got + ", due is " + want);
     }
 
     static void end() {
@@ -37,6 +43,10 @@ final class Check {
     static int read(FoldGates x, String text) {
         feed(x, text);
         return x.fold();
+    }
+
+    static String blanks(int n) {
+        return " ".repeat(n);
     }
 
     static FoldGates told(String text) {
