@@ -217,7 +217,7 @@ public final class FoldGates {
     }
 
     public int comes() {
-        return noFold() ? STATE : searchFromNow().standingsFound();
+        return noFold() ? STATE : searchFromNow().standingsFound;
     }
 
     public int round(int beast, int what) {
@@ -556,6 +556,13 @@ public final class FoldGates {
             return way >= 0 && way < pens || way >= FIRST_WAY && way < FIRST_WAY + hurdles;
         }
 
+        /** How many standings there could be at all: posts never turn. */
+        int mostStandings() {
+            int turning = 0;
+            for (int h = 0; h < hurdles; h++) if (hurdleSort[h] != POST) turning++;
+            return 1 << turning;
+        }
+
         /** Beasts (bits), the first of each kind: others of it move the hurdles just alike. */
         int firstOfKinds() {
             int kinds = 0;
@@ -685,6 +692,8 @@ public final class FoldGates {
         private int start = 0;
         private int movers = 0;
         private int found = 0;
+        /** No more is looked for once all that there could be are found. */
+        int standingsFound = 0;
         private final int[] codes = new int[STATES];
         private final int[] parent = new int[STATES];
         private final byte[] seen = new byte[STATES];
@@ -702,11 +711,13 @@ public final class FoldGates {
             start = code;
             movers = plan.firstOfKinds();
             found = 0;
+            standingsFound = 0;
             Arrays.fill(seen, (byte) 0);
             Arrays.fill(firstOf, -1);
             trial.begin(plan, 0);
             note(code, -1);
-            for (int at = 0; at < found && at < STATES; at++) spread(at);
+            int most = plan.mostStandings();
+            for (int at = 0; at < found && at < STATES && standingsFound < most; at++) spread(at);
         }
 
         private void spread(int at) {
@@ -723,18 +734,15 @@ public final class FoldGates {
             seen[code] = 1;
             codes[found] = code;
             parent[found] = cameBy;
-            if (firstOf[code % STANDINGS] < 0) firstOf[code % STANDINGS] = found;
+            if (firstOf[code % STANDINGS] < 0) {
+                firstOf[code % STANDINGS] = found;
+                standingsFound++;
+            }
             found++;
         }
 
         boolean finds(int stands) {
             return stands >= 0 && stands < STANDINGS && firstOf[stands] >= 0;
-        }
-
-        int standingsFound() {
-            int all = 0;
-            for (int stands = 0; stands < STANDINGS; stands++) if (finds(stands)) all++;
-            return all;
         }
 
         int lengthTo(int stands) {

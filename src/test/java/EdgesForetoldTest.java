@@ -358,6 +358,12 @@ public final class EdgesForetoldTest {
             Check.due("reached(" + stands + ", -1)", 0, x.reached(stands, -1));
             Check.due("reached(" + stands + ", 0)", NONE, x.reached(stands, 0));
         }
+        FoldGates stiff = Check.told(STIFF_COUNTER);
+        for (int pushes = 0; pushes < 4; pushes++) {
+            Check.due("however often it was PUSHED", 0, stiff.reached(stiff.count(5), -1));
+            Check.due("however often it was PUSHED", NONE, stiff.reached(stiff.count(5), 0));
+            stiff.run(0);
+        }
         FoldGates y = Check.told("fold 1;hurdle swing 0 0 0;");
         Check.due("without BEASTS", 0, y.reached(0, -1));
         Check.due("without BEASTS", NONE, y.reached(1, -1));

@@ -2,7 +2,7 @@ import java.util.Random;
 
 /** Chance runs of calls, the same each time, against the plain model of the document. */
 public final class ModelTest {
-    private static final int RUNS = 1500, CALLS = 480;
+    private static final int RUNS = 1500, CALLS = 440;
 
     private final Random chance;
     private final String name;
