@@ -556,6 +556,17 @@ public final class FoldGates {
             return way >= 0 && way < pens || way >= FIRST_WAY && way < FIRST_WAY + hurdles;
         }
 
+        /** How many codes there are: 2 ways to stand of each hurdle, and 3 times as many for a stiff one. */
+        int codes() {
+            int all = 1 << hurdles;
+            for (int h = 0; h < hurdles; h++) if (hurdleSort[h] == STIFF) all *= 3;
+            return all;
+        }
+
+        int standsIn(int code) {
+            return code & (1 << hurdles) - 1;
+        }
+
         /** How many standings there could be at all: posts never turn. */
         int mostStandings() {
             int turning = 0;
@@ -667,15 +678,16 @@ public final class FoldGates {
         int code() {
             int pushes = 0;
             for (int h = plan.hurdles - 1; h >= 0; h--) {
-                pushes = pushes * 3 + (plan.hurdleSort[h] == STIFF ? pushed[h] % 3 : 0);
+                if (plan.hurdleSort[h] == STIFF) pushes = pushes * 3 + pushed[h] % 3;
             }
-            return pushes * STANDINGS + stands;
+            return pushes << plan.hurdles | stands;
         }
 
         void standAs(int code) {
-            stands = code % STANDINGS;
-            int pushes = code / STANDINGS;
+            stands = plan.standsIn(code);
+            int pushes = code >> plan.hurdles;
             for (int h = 0; h < plan.hurdles; h++) {
+                if (plan.hurdleSort[h] != STIFF) continue;
                 pushed[h] = pushes % 3;
                 pushes /= 3;
             }
@@ -687,6 +699,8 @@ public final class FoldGates {
      * the way by which a standing is found first is then the least of the shortest.
      */
     private static final class Search {
+        private static final int NOT_FOUND = -1, AT_START = -2;
+
         private final Standing trial;
         private Plan plan = null;
         private int start = 0;
@@ -694,9 +708,11 @@ public final class FoldGates {
         private int found = 0;
         /** No more is looked for once all that there could be are found. */
         int standingsFound = 0;
-        private final int[] codes = new int[STATES];
-        private final int[] parent = new int[STATES];
-        private final byte[] seen = new byte[STATES];
+        /** Codes in the order in which they are found. */
+        private int[] order = new int[0];
+        /** For each code the one ahead of it, times 8, and the beast that ran there. */
+        private int[] cameBy = new int[0];
+        /** For each standing the code with which it is found first. */
         private final int[] firstOf = new int[STANDINGS];
 
         Search(Standing now) {
@@ -712,45 +728,61 @@ public final class FoldGates {
             movers = plan.firstOfKinds();
             found = 0;
             standingsFound = 0;
-            Arrays.fill(seen, (byte) 0);
-            Arrays.fill(firstOf, -1);
+            makeRoom(plan.codes());
+            Arrays.fill(cameBy, NOT_FOUND);
+            Arrays.fill(firstOf, NOT_FOUND);
             trial.begin(plan, 0);
-            note(code, -1);
+            note(code, AT_START);
             int most = plan.mostStandings();
-            for (int at = 0; at < found && at < STATES && standingsFound < most; at++) spread(at);
+            for (int k = 0; k < found && k < order.length && standingsFound < most; k++) spread(order[k]);
         }
 
-        private void spread(int at) {
+        /** Most folds have few codes: only a larger fold than those before it needs new rows. */
+        private void makeRoom(int codes) {
+            if (codes <= order.length || codes > STATES) return;
+            order = new int[codes];
+            cameBy = new int[codes];
+        }
+
+        private void spread(int code) {
             for (int beast = 0; beast < plan.beasts; beast++) {
                 if ((movers >> beast & 1) == 0) continue;
-                trial.standAs(codes[at]);
+                trial.standAs(code);
                 trial.send(beast, NO_HURDLE);
-                note(trial.code(), at * MOST_BEASTS + beast);
+                note(trial.code(), code * MOST_BEASTS + beast);
             }
         }
 
-        private void note(int code, int cameBy) {
-            if (code < 0 || code >= STATES || found >= STATES || seen[code] != 0) return;
-            seen[code] = 1;
-            codes[found] = code;
-            parent[found] = cameBy;
-            if (firstOf[code % STANDINGS] < 0) {
-                firstOf[code % STANDINGS] = found;
+        private void note(int code, int by) {
+            if (!isCode(code) || found >= order.length || cameBy[code] != NOT_FOUND) return;
+            cameBy[code] = by;
+            order[found] = code;
+            found++;
+            int stands = plan.standsIn(code);
+            if (firstOf[stands] == NOT_FOUND) {
+                firstOf[stands] = code;
                 standingsFound++;
             }
-            found++;
+        }
+
+        private boolean isCode(int code) {
+            return code >= 0 && code < cameBy.length;
+        }
+
+        private boolean isBehindOther(int code) {
+            return isCode(code) && cameBy[code] >= 0;
         }
 
         boolean finds(int stands) {
-            return stands >= 0 && stands < STANDINGS && firstOf[stands] >= 0;
+            return stands >= 0 && stands < STANDINGS && firstOf[stands] != NOT_FOUND;
         }
 
         int lengthTo(int stands) {
             if (!finds(stands)) return 0;
             int length = 0;
-            int at = firstOf[stands];
-            while (length < STATES && parent[at] >= 0) {
-                at = parent[at] / MOST_BEASTS;
+            int code = firstOf[stands];
+            while (length < STATES && isBehindOther(code)) {
+                code = cameBy[code] / MOST_BEASTS;
                 length++;
             }
             return length;
@@ -759,9 +791,9 @@ public final class FoldGates {
         /** The beast that runs with so many others behind it till all stand as told. */
         int beastBefore(int stands, int others) {
             if (!finds(stands)) return NONE;
-            int at = firstOf[stands];
-            for (int k = 0; k < others && parent[at] >= 0; k++) at = parent[at] / MOST_BEASTS;
-            return parent[at] >= 0 ? parent[at] % MOST_BEASTS : NONE;
+            int code = firstOf[stands];
+            for (int k = 0; k < others && isBehindOther(code); k++) code = cameBy[code] / MOST_BEASTS;
+            return isBehindOther(code) ? cameBy[code] % MOST_BEASTS : NONE;
         }
     }
 

@@ -1,4 +1,6 @@
+import java.io.DataInputStream;
 import java.io.IOException;
+import java.io.InputStream;
 import java.lang.reflect.Constructor;
 import java.lang.reflect.Field;
 import java.lang.reflect.Method;
@@ -17,11 +19,16 @@ public final class RulesTest {
             "ahead(iii)", "reached(ii)", "comes()", "round(ii)", "sticks(iii)", "theft(iiii)", "mixed(iii)", "image(i)",
             "restore(i)", "kind(i)", "as(ii)", "ask(ii)", "trace(i)", "count(i)", "status()");
 
+    /** What the program uses of rule 4; a method more is looked up there before it comes in here. */
+    private static final Set<String> LIBRARY = Set.of("java/lang/Object.<init>", "java/lang/String.length",
+            "java/lang/String.charAt", "java/lang/System.arraycopy", "java/lang/Long.bitCount", "java/util/Arrays.fill");
+
     public static void main(String[] args) throws IOException {
         face();
         constants();
         members();
         words();
+        library();
         Check.end();
     }
 
@@ -85,6 +92,40 @@ public final class RulesTest {
         Matcher imports = Pattern.compile("import ([^;]*);").matcher(code);
         while (imports.find()) holds("import " + imports.group(1), imports.group(1).equals("java.util.Arrays"));
         for (int k = 0; k < text.length(); k++) if (text.charAt(k) > 126) holds("a sign beyond 126 at " + k, false);
+    }
+
+    /** All methods that the compiled classes name, by their pools of constants. */
+    private static void library() throws IOException {
+        used(FoldGates.class);
+        for (Class<?> c : FoldGates.class.getDeclaredClasses()) used(c);
+    }
+
+    private static void used(Class<?> of) throws IOException {
+        try (InputStream in = of.getResourceAsStream(of.getName() + ".class"); DataInputStream data = new DataInputStream(in)) {
+            data.skipNBytes(8);
+            int size = data.readUnsignedShort();
+            String[] texts = new String[size];
+            int[][] pairs = new int[size][];
+            for (int k = 1; k < size; k++) {
+                int tag = data.readUnsignedByte();
+                switch (tag) {
+                    case 1: texts[k] = data.readUTF(); break;
+                    case 3: case 4: data.skipNBytes(4); break;
+                    case 5: case 6: data.skipNBytes(8); k++; break;
+                    case 7: case 8: pairs[k] = new int[] {tag, data.readUnsignedShort(), 0}; break;
+                    case 9: case 10: case 11: case 12:
+                        pairs[k] = new int[] {tag, data.readUnsignedShort(), data.readUnsignedShort()};
+                        break;
+                    default: holds(of + " has a method reference, a lambda or texts joined by +: " + tag, false); return;
+                }
+            }
+            for (int[] p : pairs) {
+                if (p == null || p[0] < 9 || p[0] > 11) continue;
+                String owner = texts[pairs[p[1]][1]];
+                String member = owner + "." + texts[pairs[p[2]][1]];
+                holds("of the library: " + member, owner.startsWith("FoldGates") || LIBRARY.contains(member));
+            }
+        }
     }
 
     private static void holds(String what, boolean does) {
